@@ -127,8 +127,8 @@ public final class CaseLayout {
 
     public int run(int nodes) throws IllegalArgumentException {
         needWithin(nodes, 0, MOST_NODES);
-        boolean whole = search.lookAtAll(nodes);
-        if (!whole) {
+        search.begin(nodes);
+        if (!search.tryThing(0, 0)) {
             return 1;
         }
         return search.hasFound() ? 0 : 2;
@@ -533,13 +533,12 @@ public final class CaseLayout {
             return bestWorth != NONE;
         }
 
-        boolean lookAtAll(int nodeLimit) {
+        void begin(int nodeLimit) {
             forget();
             limit = nodeLimit;
             for (int number = 0; number < things.size; number++) {
                 listSpots(number);
             }
-            return tryThing(0, 0);
         }
 
         // Walls and classes stay as they are during a search, so they are looked at once.
@@ -557,7 +556,7 @@ public final class CaseLayout {
         }
 
         // Whether all was looked at: false once a node comes for which none is left.
-        private boolean tryThing(int number, int gained) {
+        boolean tryThing(int number, int gained) {
             if (number >= things.size || number >= MOST_THINGS) {
                 judge(gained);
                 return true;

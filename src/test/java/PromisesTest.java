@@ -26,6 +26,8 @@ public final class PromisesTest {
         promise15SightOfCoveredPlace();
         promise16Escape();
         promise16Exits();
+        promise16Beside();
+        promises15And16OfTheBest();
         promise17Count();
         Check.end();
     }
@@ -570,6 +572,42 @@ public final class PromisesTest {
         Check.due("below is", aslant.run(9), 0);
         aslant.most(0);
         Check.due("but a step too far", aslant.run(9), 2);
+    }
+
+    /** A thing of two by two in the midst, with the one exit at each other cell in turn. */
+    private static void promise16Beside() {
+        String[] rows = {".##.", "#  #", "#  #", ".##."};
+        for (int y = 0; y < 4; y++) {
+            for (int x = 0; x < 4; x++) {
+                if (rows[y].charAt(x) != ' ') {
+                    CaseLayout layout = new CaseLayout(4, 4);
+                    layout.thing(2, 2, 1);
+                    for (int cell = 0; cell < 4; cell++) {
+                        layout.zone(1 + cell % 2, 1 + cell / 2, 1);
+                    }
+                    layout.exit(x, y);
+                    layout.most(0);
+                    Check.due("an exit at " + x + ", " + y, layout.run(9), rows[y].charAt(x) == '#' ? 0 : 2);
+                }
+            }
+        }
+    }
+
+    /** Later tries are worth more, but cover the exit: they must not shine through. */
+    private static void promises15And16OfTheBest() {
+        CaseLayout layout = new CaseLayout(3, 1);
+        layout.thing(1, 1, 0);
+        layout.thing(1, 1, 0);
+        layout.wish(0, 1, 5);
+        layout.exit(1, 0);
+        layout.place(1, 0);
+        Check.due("run", layout.run(9), 0);
+        Check.due("worth", layout.worth(), 0);
+        Check.due("sight in the best", layout.sight(0, 0), true);
+        Check.due("sight in the best of the second", layout.sight(0, 1), true);
+        layout.run(9);
+        Check.due("escape in the best", layout.escape(1, 0), 0);
+        Check.due("escape under a thing of the best", layout.escape(0, 0), CaseLayout.NONE);
     }
 
     private static void promise17Count() {
