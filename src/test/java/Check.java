@@ -30,14 +30,17 @@ final class Check {
     /** The call has to throw just this class, and to leave alone what was found. */
     static void refused(CaseLayout layout, String call, Class<? extends RuntimeException> kind, Call made) {
         String before = Seen.of(layout);
-        String got;
-        try {
-            got = "answered " + made.answer();
-        } catch (RuntimeException e) {
-            got = e.getClass().getSimpleName();
-        }
-        due(call, got, kind.getSimpleName());
+        due(call, answer(made), kind.getSimpleName());
         due(call + ", and what is seen after it", Seen.of(layout), before);
+    }
+
+    /** What a call answers, or the very class of what it throws. */
+    static String answer(Call made) {
+        try {
+            return String.valueOf(made.answer());
+        } catch (RuntimeException e) {
+            return e.getClass().getSimpleName();
+        }
     }
 
     static void tell(String words) {

@@ -8,11 +8,12 @@ import java.util.TreeSet;
 /** The public face is the document's, and no other. */
 public final class FaceTest {
     private static final String[] METHODS = {
-        "boolean wall(int,int,boolean)", "int zone(int,int,int)", "int thing(int,int,int)",
-        "int apart(int,int,int)", "int wish(int,int,int)", "int place(int,int)",
-        "boolean sees(int,int,boolean)", "int exit(int,int)", "int most(int)", "int run(int)",
-        "int nodes()", "int at(int,int)", "int worth()", "boolean sight(int,int)", "int escape(int,int)",
-        "int count(int)"};
+        "boolean wall(int,int,boolean) Index", "int zone(int,int,int) Index Argument",
+        "int thing(int,int,int) State Argument", "int apart(int,int,int) Index Argument",
+        "int wish(int,int,int) Index Argument", "int place(int,int) Index State Argument",
+        "boolean sees(int,int,boolean) Index", "int exit(int,int) Index State Argument", "int most(int) Argument",
+        "int run(int) Argument", "int nodes()", "int at(int,int) Index State", "int worth()",
+        "boolean sight(int,int) Index State", "int escape(int,int) Index State", "int count(int) Index"};
 
     public static void main(String[] args) {
         int modifiers = CaseLayout.class.getModifiers();
@@ -21,6 +22,7 @@ public final class FaceTest {
         Check.due("NONE", CaseLayout.NONE, -1);
         methods();
         fieldsAndConstructors();
+        classesInside();
         Check.end();
     }
 
@@ -56,6 +58,22 @@ public final class FaceTest {
         Check.due("it is public", Modifier.isPublic(made[0].getModifiers()), true);
     }
 
+    private static void classesInside() {
+        for (Class<?> inside : CaseLayout.class.getDeclaredClasses()) {
+            String name = inside.getSimpleName();
+            Check.due(name + " is private", Modifier.isPrivate(inside.getModifiers()), true);
+            Check.due(name + " is static", Modifier.isStatic(inside.getModifiers()), true);
+            Check.due(name + " has at most twenty fields", inside.getDeclaredFields().length <= 20, true);
+            for (Method method : inside.getDeclaredMethods()) {
+                for (String open : METHODS) {
+                    if (open.contains(" " + method.getName() + "(")) {
+                        Check.tell(name + " bears the name of a public method: " + method.getName());
+                    }
+                }
+            }
+        }
+    }
+
     private static String written(Method method) {
         StringBuilder text = new StringBuilder();
         text.append(method.getReturnType().getName()).append(' ').append(method.getName()).append('(');
@@ -64,6 +82,10 @@ public final class FaceTest {
             text.append(comma).append(type.getName());
             comma = ",";
         }
-        return text.append(')').toString();
+        text.append(')');
+        for (Class<?> thrown : method.getExceptionTypes()) {
+            text.append(' ').append(thrown.getSimpleName().replaceAll("OutOfBoundsException|Illegal|Exception", ""));
+        }
+        return text.toString();
     }
 }

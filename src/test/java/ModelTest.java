@@ -31,8 +31,8 @@ public final class ModelTest {
             int[] n = arguments(random, name, sizes, model);
             keepInside(random, name, n, width, height);
             boolean on = random.nextInt(4) != 0;
-            String got = answer(() -> ask(layout, name, n, on));
-            String want = answer(() -> ask(model, name, n, on));
+            String got = Check.answer(() -> ask(layout, name, n, on));
+            String want = Check.answer(() -> ask(model, name, n, on));
             told.append("; ").append(name).append(' ').append(n[0]).append(' ').append(n[1]).append(' ')
                     .append(n[2]).append(' ').append(on).append(": ").append(got);
             kinds.merge(name + (got.equals("0") || got.startsWith("I") || name.equals("run") ? " " + got : " other"),
@@ -117,14 +117,6 @@ public final class ModelTest {
 
     private static int wild(Random random) {
         return WILD[random.nextInt(WILD.length)];
-    }
-
-    private static String answer(Check.Call call) {
-        try {
-            return String.valueOf(call.answer());
-        } catch (RuntimeException e) {
-            return e.getClass().getSimpleName();
-        }
     }
 
     private static long ask(CaseLayout x, String name, int[] n, boolean on) {
